@@ -51,6 +51,21 @@ public final class AskedTest {
         CHECK.due("32: empty", x.kind(5), Check.NULL);
         CHECK.due("32: status", x.status(), 1);
         unlikeSixAndSeven();
+        workOneAndLess();
+    }
+
+    private static void workOneAndLess() {
+        ValveShop x = Shops.with(11, 193, 9, 9, 0, 14, 49, 30, 98, 1, 421);
+        x.sicken(0, 9);
+        CHECK.due("32: WORK 1", x.work(0, 6, 1000, 4, 0), 1);
+        CHECK.due("32: WORK 1 is not STUCK", x.kind(0), 3);
+        x = Shops.with(4, 144, 10, 16, 19, 44, 30, 97, 32, 28, 342);
+        x.sicken(0, 11);
+        CHECK.due("32: by BOILER 1001 there is some WORK", x.work(0, 6, 1001, 4, 0) > 0 ? 1 : 0, 1);
+        CHECK.due("32: by BOILER 1000 there is none", x.kind(0), 4);
+        x.kind(3);
+        x.kind(0);
+        CHECK.due("32: status", x.status(), 0);
     }
 
     private static void unlikeSixAndSeven() {
@@ -238,9 +253,9 @@ public final class AskedTest {
     }
 
     private static void everyCallClearsIt() {
-        ValveShop x = withAll();
-        Shops.fill(x, 2, new int[48]);
         for (int call = 0; call < 28; call++) {
+            ValveShop x = withAll();
+            Shops.fill(x, 2, new int[48]);
             Shops.fill(x, 0, Shops.PLAIN);
             Shops.fill(x, 1, 5, 0, 0);
             x.kind(5);
@@ -250,6 +265,10 @@ public final class AskedTest {
     }
 
     private static int answered(ValveShop x, int call) {
+        if (call == 20 || call == 21) {
+            x.find(0, 6, 1000, 2, 0);
+            x.kind(5);
+        }
         switch (call) {
             case 0: return x.sheet(3, 2, 1);
             case 1: return x.set(0, 0, 0);
@@ -266,7 +285,7 @@ public final class AskedTest {
             case 12: return x.event(0, 6, 0, 0);
             case 13: return x.valves(0, 0);
             case 14: return x.setting(0, 0);
-            case 15: return x.tune(4);
+            case 15: return x.tune(2);
             case 16: return x.card(0, 0, 0, 0, 0, 0);
             case 17: return x.look(0, 0, 0, 0, 0, 0);
             case 18: return x.work(0, 0, 0, 0, 0);

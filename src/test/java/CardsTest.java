@@ -1,3 +1,5 @@
+import java.util.Arrays;
+
 /** Promises 19 to 21. */
 public final class CardsTest {
     private static final Check CHECK = new Check("cards");
@@ -13,7 +15,7 @@ public final class CardsTest {
         look();
         work();
         workByCards();
-        drink();
+        cardsByOpenings();
         CHECK.end();
     }
 
@@ -47,8 +49,9 @@ public final class CardsTest {
         for (int end = 0; end < 2; end++) {
             int[] due = new int[48];
             int pressure = 500;
+            int[] room = rooms(x, end);
             for (int turned = 1; turned < 144; turned++) {
-                pressure = pressure * room(x, end, turned - 1) / room(x, end, turned);
+                pressure = pressure * room[(turned - 1) % 48] / room[turned % 48];
                 due[turned % 48] = pressure;
             }
             for (int k = 0; k < 48; k++) {
@@ -65,8 +68,9 @@ public final class CardsTest {
             x.sicken(0, 7 + i);
             int[] due = new int[48];
             int pressure = 0;
+            int[] room = rooms(x, 0);
             for (int turned = 1; turned < 144; turned++) {
-                pressure = pressure * room(x, 0, turned - 1) / room(x, 0, turned);
+                pressure = pressure * room[(turned - 1) % 48] / room[turned % 48];
                 pressure += (750 - pressure) * leaks[i] / 200;
                 due[turned % 48] = pressure;
             }
@@ -76,9 +80,13 @@ public final class CardsTest {
         }
     }
 
-    private static int room(ValveShop x, int end, int k) {
-        int stroke = x.piston(0, k);
-        return x.number(0, 7) + (end == 0 ? stroke : 1000 - stroke);
+    private static int[] rooms(ValveShop x, int end) {
+        int clear = x.number(0, 7);
+        int[] room = new int[48];
+        for (int k = 0; k < 48; k++) {
+            room[k] = clear + (end == 0 ? x.piston(0, k) : 1000 - x.piston(0, k));
+        }
+        return room;
     }
 
     private static void cardRefused() {
@@ -169,35 +177,80 @@ public final class CardsTest {
         CHECK.due("21: WORK by both CARDS", Shops.with(numbers).work(0, 4, 1700, 3, 0), sum / 2000);
     }
 
-    /** Before STEAM there is nothing, and the chest is shut but at a few PLACES: they can be told by hand. */
-    private static void drink() {
-        ValveShop x = Shops.with(0, 100, 0, 0, 90, 50, 10, 100, 10, 1, 0);
-        long sum = 0;
-        for (int end = 0; end < 2; end++) {
-            int pressure = 0;
-            sum = 0;
-            ValveShop y = Shops.with(0, 100, 0, 0, 90, 50, 10, 100, 10, 1, 0);
-            int[] room = new int[48];
-            int[] steam = new int[48];
-            int[] exhaust = new int[48];
-            for (int k = 0; k < 48; k++) {
-                room[k] = room(y, end, k);
-                steam[k] = y.open(0, 6, end, k, 0);
-                exhaust[k] = y.open(0, 6, end, k, 1);
-            }
-            for (int turned = 1; turned < 144; turned++) {
-                int k = turned % 48;
-                pressure = pressure * room[(turned - 1) % 48] / room[k];
-                int more = (1000 - pressure) * steam[k] / (steam[k] + 10);
-                sum += turned >= 96 && more > 0 ? (long) more * room[k] : 0;
-                pressure += more;
-                pressure += -pressure * exhaust[k] / (exhaust[k] + 1);
-            }
-            drunk += sum;
+    private static void cardsByOpenings() {
+        int[][] engines = {
+            // the NUMBERS, then SICKNESS, NOTCH, BOILER, REGULATOR
+            {0, 100, 0, 0, 90, 50, 10, 100, 10, 1, 0, 0, 6, 1000, 4},
+            {9, 180, 4, 13, 25, -8, 60, 35, 22, 14, 130, 0, 4, 1501, 3},
+            {4, 150, 9, -20, 0, 10, 100, 20, 1, 100, 500, 9, -5, 2000, 4},
+            {20, 90, 2, 20, 15, 0, 33, 180, 77, 5, 60, 11, 2, 777, 1},
+            {0, 120, 6, -7, 30, 5, 30, 60, 15, 20, 100, 2, 5, 1200, 4},
+            {6, 10, 11, 20, 0, -20, 1, 200, 100, 1, 500, 8, 6, 100, 2}};
+        for (int[] engine : engines) {
+            byOpenings(engine);
         }
-        CHECK.due("21: DRINK of both ENDS", x.work(0, 6, 1000, 4, 1), drunk / 1000);
-        CHECK.due("21: there is some", drunk > 0 ? 1 : 0, 1);
     }
 
-    private static long drunk;
+    private static ValveShop engineOf(int[] row) {
+        ValveShop x = Shops.with(Arrays.copyOf(row, 11));
+        x.sicken(0, row[11]);
+        return x;
+    }
+
+    /** What open() and piston() tell is enough for both CARDS, WORK and DRINK. */
+    private static void byOpenings(int[] row) {
+        long work = 0;
+        long drink = 0;
+        for (int end = 0; end < 2; end++) {
+            ValveShop x = engineOf(row);
+            int[] room = rooms(x, end);
+            int[] due = new int[48];
+            drink += drawnBy(x, row, end, room, due);
+            for (int k = 0; k < 48; k++) {
+                CHECK.due("19: END " + end + " at " + k, x.card(0, row[12], row[13], row[14], end, k), due[k]);
+                work += (long) (due[k] + due[(k + 1) % 48]) * (room[(k + 1) % 48] - room[k]);
+            }
+            looksOf(x, row, end, due);
+        }
+        CHECK.due("21: WORK of both ENDS", engineOf(row).work(0, row[12], row[13], row[14], 0), work / 2000);
+        CHECK.due("21: DRINK of both ENDS", engineOf(row).work(0, row[12], row[13], row[14], 1), drink / 1000);
+    }
+
+    private static long drawnBy(ValveShop x, int[] row, int end, int[] room, int[] due) {
+        int[] leaks = {0, 0, 0, 0, 0, 0, 0, 5, 10, 20, 0, 0, 0};
+        int[] choked = {0, 0, 0, 0, 0, 0, 0, 0, 0, 0, 20, 50, 100};
+        int live = row[13] * row[14] / 4;
+        int pressure = row[10];
+        long sum = 0;
+        for (int turned = 1; turned < 144; turned++) {
+            int k = turned % 48;
+            pressure = pressure * room[(turned - 1) % 48] / room[k];
+            int steam = x.open(0, row[12], end, k, 0);
+            int more = (live - pressure) * steam / (steam + row[8] + choked[row[11]]);
+            sum += turned >= 96 && more > 0 ? (long) more * room[k] : 0;
+            pressure += more;
+            int exhaust = x.open(0, row[12], end, k, 1);
+            pressure += (row[10] - pressure) * exhaust / (exhaust + row[9]);
+            pressure += (live - pressure) * leaks[row[11]] / 200;
+            due[k] = pressure;
+        }
+        return sum;
+    }
+
+    private static void looksOf(ValveShop x, int[] row, int end, int[] due) {
+        int sum = 0;
+        int peak = 0;
+        int loop = 0;
+        for (int k = 0; k < 48; k++) {
+            sum += due[k];
+            peak = Math.max(peak, due[k]);
+            loop += k > 0 && k < 24 && due[k] < due[48 - k] ? 1 : 0;
+        }
+        int[] looks = {sum / 48, peak, loop};
+        for (int what = 0; what < 3; what++) {
+            x.kind(3);
+            CHECK.due("20: look, END " + end, x.look(0, row[12], row[13], row[14], end, what), looks[what]);
+            CHECK.due("20: status", x.status(), 0);
+        }
+    }
 }

@@ -66,7 +66,7 @@ public final class FireTest {
         int gauge = 0;
         int drunk = 0;
         for (int i = 0; i < 12; i++) {
-            int drink = x.work(0, 6, gauge + 100, 4, 1) / 100;
+            int drink = Shops.plain().work(0, 6, gauge + 100, 4, 1) / 100;
             gauge += 100 - drink;
             drunk += drink;
             CHECK.due("30: by DRINK with GAUGE for its BOILER", x.minute(0, 6, 4), gauge);
@@ -76,7 +76,7 @@ public final class FireTest {
         CHECK.due("30: status", x.status(), 0);
         ValveShop thirsty = Shops.with(0, 200, 11, 20, 0, -20, 100, 200, 1, 1, 0);
         thirsty.stoke(20);
-        int wanted = thirsty.work(0, 6, 100, 4, 1) / 100;
+        int wanted = Shops.with(0, 200, 11, 20, 0, -20, 100, 200, 1, 1, 0).work(0, 6, 100, 4, 1) / 100;
         CHECK.due("30: as far as GAUGE has it", thirsty.minute(0, 6, 4), Math.max(0, 100 - wanted));
         CHECK.due("31: DRUNK", thirsty.fire(3), Math.min(100, wanted));
         CHECK.due("30: nothing to drink", new ValveShop().minute(0, 6, 4), Check.NULL);

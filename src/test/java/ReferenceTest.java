@@ -1,7 +1,9 @@
 /** All promises: long runs of mixed calls, each answer as the document's words, once more written down, give it. */
 public final class ReferenceTest {
     private static final Check CHECK = new Check("reference");
-    private static final int RUNS = 300, CALLS = 512;
+    private static final int RUNS = 500;
+    /** A step may make 170 calls more, and an object is used for 512 at most. */
+    private static final int CALLS = 340;
     private static final int[] LEAST = {4, 10, 0, -20, 0, -20, 1, 20, 1, 1, 0};
     private static final int[] MOST = {20, 200, 11, 20, 100, 50, 100, 200, 100, 100, 500};
     private static final int[] EDGES = {Integer.MIN_VALUE, Integer.MAX_VALUE, -1, 61, 6, 8, 2001, 1001, -1001, 48,

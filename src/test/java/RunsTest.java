@@ -1,6 +1,10 @@
 /** Promises 27 and 28. */
 public final class RunsTest {
     private static final Check CHECK = new Check("runs");
+    /** It goes in NOTCH 6 alone. */
+    private static final int[] LONG_LAP = {0, 100, 2, 0, 90, 0, 40, 50, 10, 10, 100};
+    /** It goes in NOTCH 1, too. */
+    private static final int[] SHORT_LAP = {7, 100, 4, 0, 10, 0, 40, 50, 10, 10, 100};
 
     private RunsTest() {
     }
@@ -8,6 +12,7 @@ public final class RunsTest {
     public static void main(String[] args) {
         run();
         runRefused();
+        ofAllSheets();
         refusedKeepsThePlan();
         plan();
         byAllChoices();
@@ -81,6 +86,14 @@ public final class RunsTest {
         CHECK.due("27: the most and the least", x.run(0, 2000, 1000, 1, 0, 2) > 0 ? 1 : 0, 1);
     }
 
+    private static void ofAllSheets() {
+        for (int sheet = 0; sheet < 8; sheet++) {
+            ValveShop x = Shops.plain();
+            Shops.fill(x, sheet, 20, 120, 1);
+            CHECK.due("27: SHEET " + sheet, x.run(0, 1000, 500, sheet, 0, 1), 44);
+        }
+    }
+
     private static void refusedKeepsThePlan() {
         ValveShop x = withRoad(20, 120, 1, 10, 50, 2);
         CHECK.due("27: one STRETCH", x.run(0, 1000, 500, 1, 0, 1), 44);
@@ -114,9 +127,9 @@ public final class RunsTest {
     }
 
     /** Minutes and COAL of all choices on a STRETCH, by what work() tells; minutes 0: it can't go. */
-    private static int[][] choices(int miles, int load, int stop) {
+    private static int[][] choices(int[] engine, int miles, int load, int stop) {
         int[][] rows = new int[24][];
-        ValveShop x = Shops.plain();
+        ValveShop x = Shops.with(engine);
         for (int choice = 0; choice < 24; choice++) {
             int notch = 1 + choice / 4;
             int regulator = 1 + choice % 4;
@@ -135,15 +148,21 @@ public final class RunsTest {
     private static void byAllChoices() {
         int[][] roads = {{7, 0, 1, 3, 300, 0}, {1, 0, 0, 1, 0, 0}, {50, 700, 0, 50, 10, 1}, {2, 900, 1, 9, 400, 1}};
         for (int[] road : roads) {
-            int[][] first = choices(road[0], road[1], road[2]);
-            int[][] second = choices(road[3], road[4], road[5]);
-            for (int minutes = 0; minutes <= 1000; minutes = minutes * 3 / 2 + 3) {
-                byTwo(road, first, second, minutes);
-            }
+            byTwoOf(Shops.PLAIN, road);
+            byTwoOf(LONG_LAP, road);
+            byTwoOf(SHORT_LAP, road);
         }
     }
 
-    private static void byTwo(int[] road, int[][] first, int[][] second, int minutes) {
+    private static void byTwoOf(int[] engine, int[] road) {
+        int[][] first = choices(engine, road[0], road[1], road[2]);
+        int[][] second = choices(engine, road[3], road[4], road[5]);
+        for (int minutes = 0; minutes <= 1000; minutes = minutes * 7 / 6 + 2) {
+            byTwo(engine, road, first, second, minutes);
+        }
+    }
+
+    private static void byTwo(int[] engine, int[] road, int[][] first, int[][] second, int minutes) {
         int least = Check.NONE;
         int[] one = null;
         int[] two = null;
@@ -157,7 +176,8 @@ public final class RunsTest {
                 }
             }
         }
-        ValveShop x = withRoad(road);
+        ValveShop x = Shops.with(engine);
+        Shops.fill(x, 1, road);
         CHECK.due("27: COAL in " + minutes, x.run(0, 1000, minutes, 1, 0, 2), least);
         if (one != null) {
             CHECK.dueRow("28: the first in " + minutes, planned(x, 0), one);
@@ -172,7 +192,7 @@ public final class RunsTest {
             road[3 * s] = 1;
         }
         ValveShop x = withRoad(road);
-        int[][] rows = choices(1, 0, 0);
+        int[][] rows = choices(Shops.PLAIN, 1, 0, 0);
         int least = Integer.MAX_VALUE;
         int[] due = null;
         for (int[] row : rows) {

@@ -103,6 +103,9 @@ public final class SheetsTest {
         CHECK.due("4: none at the end", x.copy(0, 5, 1, 3, 0), 0);
         CHECK.due("4: status", x.status(), 0);
         CHECK.due("4: all", x.copy(0, 0, 0, 0, 5), 5);
+        Shops.fill(x, 7, 1, 2, 3, 4, 5);
+        CHECK.due("4: from the last SHEET", x.copy(7, 1, 0, 1, 4), 4);
+        CHECK.due("4: to the last SHEET", x.copy(0, 1, 7, 1, 4), 4);
     }
 
     private static void copyRefused() {

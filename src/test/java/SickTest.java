@@ -18,6 +18,7 @@ public final class SickTest {
         named();
         namedBySicknesses();
         whose();
+        ofAllSheets();
         whoseOfSeveral();
         whoseRefused();
         next();
@@ -211,7 +212,7 @@ public final class SickTest {
         CHECK.due("25: status", x.status(), 0);
         x.twin(5, 1);
         x.sicken(5, 11);
-        for (int notch = -6; notch <= 6; notch += 3) {
+        for (int notch = -6; notch <= 6; notch += 6) {
             Shops.fill(x, 1, Shops.card(x, 5, notch, 800));
             CHECK.due("25: the place", x.whose(1, 0, 800, 0), 5);
             CHECK.due("25: the NOTCH", x.whose(1, 0, 800, 1), notch);
@@ -219,6 +220,29 @@ public final class SickTest {
         }
         CHECK.due("25: nothing is kept", x.count(6), 0);
         CHECK.due("25: nothing changes", x.number(5, 11), 11);
+    }
+
+    private static void ofAllSheets() {
+        for (int sheet = 0; sheet < 8; sheet++) {
+            ValveShop x = Shops.plain();
+            Shops.fill(x, sheet, CARD);
+            CHECK.due("22: SHEET " + sheet, x.find(0, 6, 1000, sheet, 0), 48);
+            CHECK.due("25: place 0", x.whose(sheet, 0, 1000, 0), 0);
+            x.kind(3);
+            CHECK.due("24: DOUBT", x.named(0, 2, 1000), 4);
+            CHECK.due("24: status", x.status(), 0);
+            x.set(sheet, 0, -2);
+            CHECK.due("22: the first ITEM", x.find(0, 6, 1000, sheet, 0), Check.BAD);
+            CHECK.due("25: the first ITEM", x.whose(sheet, 0, 1000, 0), Check.BAD);
+        }
+        for (int place = 0; place < 6; place++) {
+            ValveShop x = new ValveShop();
+            Shops.put(x, place, Shops.PLAIN);
+            Shops.fill(x, 1, CARD);
+            CHECK.due("25: place " + place, x.whose(1, 0, 1000, 0), place);
+            CHECK.due("22: place " + place, x.find(place, 6, 1000, 1, 0), 48);
+            CHECK.due("23: place " + place, x.misfit(place, 0), 9992);
+        }
     }
 
     private static void whoseOfSeveral() {
@@ -278,6 +302,8 @@ public final class SickTest {
         CHECK.due("26: empty", y.next(1, 1, 2, 5), Check.NULL);
         CHECK.due("26: empty, BAD first", y.next(1, 2, 2, 5), Check.BAD);
         CHECK.due("26: status", y.status(), 1);
+        ValveShop far = Shops.with(0, 193, 7, -14, 20, 40, 21, 153, 49, 43, 173);
+        CHECK.due("26: in NOTCH 6", far.next(0, 5, 4, 1000), 6);
         ValveShop shut = Shops.with(Shops.SHUT);
         CHECK.due("26: of several the least", shut.next(0, 1, 2, 1000), -6);
         CHECK.due("26: status", shut.status(), 0);

@@ -7,7 +7,9 @@ public final class ValvesTest {
 
     public static void main(String[] args) {
         piston();
+        pistonOfAllRods();
         valve();
+        valveOfAll();
         valveOfSickOnes();
         open();
         event();
@@ -48,6 +50,28 @@ public final class ValvesTest {
         CHECK.due("12: status", x.status(), 1);
     }
 
+    /** C by the rule of the document: a quarter of the turn is told. */
+    private static int cosine(int k) {
+        int[] quarter = {10000, 9914, 9659, 9239, 8660, 7934, 7071, 6088, 5000, 3827, 2588, 1305, 0};
+        int place = Math.floorMod(k, 48);
+        if (place > 24) {
+            place = 48 - place;
+        }
+        return place <= 12 ? quarter[place] : -quarter[24 - place];
+    }
+
+    private static void pistonOfAllRods() {
+        for (int rod = 4; rod <= 20; rod++) {
+            ValveShop x = Shops.plain();
+            x.adjust(0, 0, rod);
+            for (int k = -60; k <= 120; k++) {
+                int sine = cosine(k - 12);
+                CHECK.due("12: ROD " + rod + ", piston(0, " + k + ")", x.piston(0, k),
+                    (10000 - cosine(k)) / 20 + sine * sine / (400000 * rod));
+            }
+        }
+    }
+
     private static void valve() {
         ValveShop x = Shops.with(0, 10, 0, 0, 40, 0, 40, 50, 10, 10, 100);
         CHECK.due("13: S(1) by 1000", x.valve(0, 6, 1), 1);
@@ -80,6 +104,22 @@ public final class ValvesTest {
         CHECK.due("13: empty", x.valve(1, 6, 0), Check.NULL);
         CHECK.due("13: empty, BAD first", x.valve(1, 7, 0), Check.BAD);
         CHECK.due("13: status", x.status(), 1);
+    }
+
+    /** Each PLACE of the turn, in each NOTCH, by many throws, so that each cosine tells. */
+    private static void valveOfAll() {
+        for (int throwOf = 10; throwOf <= 200; throwOf++) {
+            for (int notch = -6; notch <= 6; notch++) {
+                int advance = (throwOf + notch) % 12;
+                int hang = throwOf % 41 - 20;
+                ValveShop x = Shops.with(0, throwOf, advance, hang, 40, 0, 40, 50, 10, 10, 100);
+                for (int k = 0; k < 48; k++) {
+                    int sines = (6 + notch) * cosine(k + advance - 12) + (6 - notch) * cosine(advance - k - 12);
+                    CHECK.due("13: THROW " + throwOf + ", NOTCH " + notch + ", PLACE " + k, x.valve(0, notch, k),
+                        throwOf * sines / 120000 + hang * notch / 6);
+                }
+            }
+        }
     }
 
     private static void valveOfSickOnes() {
@@ -159,22 +199,30 @@ public final class ValvesTest {
         CHECK.due("15: status", x.status(), 1);
     }
 
-    /** Of an engine whose ends open more than once a turn the first PLACE counts. */
+    /** By what open() tells, PLACE by PLACE. */
     private static void eventBySwings() {
-        ValveShop x = Shops.with(0, 150, 7, 9, 20, -3, 40, 50, 10, 10, 100);
-        for (int end = 0; end < 2; end++) {
-            for (int what = 0; what < 4; what++) {
-                int first = Check.NONE;
-                for (int k = 47; k >= 0; k--) {
-                    boolean was = x.open(0, 2, end, k - 1, what / 2) > 0;
-                    boolean now = x.open(0, 2, end, k, what / 2) > 0;
-                    if (what % 2 == 0 ? now && !was : was && !now) {
-                        first = k;
-                    }
+        int[][] engines = {{0, 150, 7, 9, 20, -3, 40, 50, 10, 10, 100}, {0, 100, 5, 15, 30, 4, 1, 50, 10, 10, 100},
+            {0, 100, 0, -20, 20, 20, 40, 50, 10, 10, 100}, {0, 60, 11, 20, 41, 11, 40, 50, 10, 10, 100}};
+        for (int[] engine : engines) {
+            for (int notch = -6; notch <= 6; notch++) {
+                for (int end = 0; end < 2; end++) {
+                    eventsOf(Shops.with(engine), notch, end);
                 }
-                CHECK.due("15: event " + what + " of END " + end, x.event(0, 2, end, what), first);
             }
-            x = Shops.with(0, 150, 7, 9, 20, -3, 40, 50, 10, 10, 100);
+        }
+    }
+
+    private static void eventsOf(ValveShop x, int notch, int end) {
+        for (int what = 0; what < 4; what++) {
+            int first = Check.NONE;
+            for (int k = 47; k >= 0; k--) {
+                boolean was = x.open(0, notch, end, k - 1, what / 2) > 0;
+                boolean now = x.open(0, notch, end, k, what / 2) > 0;
+                if (what % 2 == 0 ? now && !was : was && !now) {
+                    first = k;
+                }
+            }
+            CHECK.due("15: event " + what + " of END " + end + " in NOTCH " + notch, x.event(0, notch, end, what), first);
         }
     }
 
@@ -229,6 +277,14 @@ public final class ValvesTest {
         CHECK.due("17: place 6", x.setting(6, 0), Check.BAD);
         CHECK.due("17: empty", x.setting(1, 0), Check.NULL);
         CHECK.due("17: status", x.status(), 1);
+        ValveShop far = Shops.with(0, 88, 7, -11, 80, 48, 16, 57, 53, 49, 306);
+        far.sicken(0, 3);
+        CHECK.due("17: the greatest ADVANCE", far.setting(0, 0), 11);
+        CHECK.due("17: the greatest ADVANCE", far.setting(0, 1), 0);
+        CHECK.due("17: the greatest ADVANCE", far.setting(0, 2), 0);
+        far.kind(3);
+        far.setting(0, 2);
+        CHECK.due("17: status", far.status(), 0);
         ValveShop shut = Shops.with(Shops.SHUT);
         CHECK.due("17: of several the least ADVANCE", shut.setting(0, 0), 0);
         CHECK.due("17: of several the least HANG", shut.setting(0, 1), -20);
