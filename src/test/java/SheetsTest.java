@@ -115,6 +115,8 @@ public final class SheetsTest {
         x.sheet(2, 1, 3);
         CHECK.due("4: copy(8, ..)", x.copy(8, 0, 0, 0, 0), Check.BAD);
         CHECK.due("4: copy(.., -1, ..)", x.copy(3, 0, -1, 0, 0), Check.BAD);
+        CHECK.due("4: copy(.., 8, ..)", x.copy(3, 0, 8, 0, 0), Check.BAD);
+        CHECK.due("4: copy(-1, ..)", x.copy(-1, 0, 0, 0, 0), Check.BAD);
         CHECK.due("4: no first", x.copy(3, 0, 0, 0, 0), Check.NULL);
         CHECK.due("4: no second", x.copy(0, 9, 3, 0, 0), Check.NULL);
         CHECK.due("4: status", x.status(), 1);
