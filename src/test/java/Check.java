@@ -6,9 +6,27 @@ final class Check {
     private final String about;
     private int asked;
     private int wrong;
+    private int sentences;
+    private int broken;
 
     Check(String about) {
         this.about = about;
+    }
+
+    /** A test of its own for one sentence of the document; the words say which one. */
+    void sentence(String words, Runnable test) {
+        int wrongAhead = wrong;
+        int askedAhead = asked;
+        test.run();
+        sentences++;
+        if (asked == askedAhead) {
+            wrong++;
+            System.out.println(about + ": nothing was asked");
+        }
+        if (wrong > wrongAhead) {
+            broken++;
+            System.out.println(about + ": does not hold: " + words);
+        }
     }
 
     void due(String call, long got, long want) {
@@ -17,6 +35,10 @@ final class Check {
             wrong++;
             System.out.println(about + ": " + call + " answered " + got + ", due is " + want);
         }
+    }
+
+    void holds(String what, boolean so) {
+        due(what, so ? 1 : 0, 1);
     }
 
     /** The answers are due in the order in which they are given. */
@@ -28,7 +50,8 @@ final class Check {
     }
 
     void end() {
-        System.out.println(about + ": " + asked + " answers, " + wrong + " not as due");
+        System.out.println(about + ": " + asked + " answers, " + wrong + " not as due"
+            + (sentences > 0 ? "; " + sentences + " sentences, " + broken + " do not hold" : ""));
         if (wrong != 0 || asked == 0) {
             System.exit(1);
         }
