@@ -276,6 +276,13 @@ public final class CardsEdgesTest {
         CHECK.due("it is that at 47", sick(2, 20, 145, 3, 11, 35, 43, 65, 151, 46, 85, 452).card(0, -1, 1162, 4, 0, 47), 1463);
         lookIs(1, 275, 1, new int[] {0, 160, 0, 2, 33, 3, 6, 165, 91, 50, 38}, 5, 725, 3, 1);
         lookIs(1, 0, 0, Shops.SHUT, 6, 2000, 4, 1);
+        // at PLACES 1, 1, 46, 46, 24, 24
+        lookIs(1, 1298, 0, new int[] {5, 116, 9, -9, 91, -4, 81, 176, 5, 35, 251}, 3, 1746, 3, 0);
+        lookIs(1, 791, 2, new int[] {5, 82, 0, -2, 10, -11, 34, 132, 7, 12, 411}, 5, 1586, 2, 1);
+        lookIs(1, 2917, 1, new int[] {11, 81, 11, -11, 61, -15, 10, 52, 12, 47, 394}, 4, 1064, 1, 0);
+        lookIs(1, 1526, 0, new int[] {18, 183, 1, -19, 13, 4, 35, 166, 32, 10, 22}, 6, 1568, 4, 1);
+        lookIs(1, 276, 8, new int[] {18, 191, 4, 19, 63, 46, 73, 131, 58, 74, 308}, -5, 106, 1, 0);
+        lookIs(1, 10514, 12, new int[] {8, 25, 10, 14, 82, 39, 43, 27, 65, 62, 307}, 5, 1707, 1, 1);
     }
 
     /** Of which PLACES k from 0 to 24 the line going out is under the one coming back. */
@@ -381,6 +388,9 @@ public final class CardsEdgesTest {
         workIs(1, 823, 12, new int[] {0, 197, 11, 20, 52, 14, 78, 112, 83, 26, 4}, -2, 1227, 4);
         workIs(1, 4, 4, new int[] {0, 57, 3, 14, 15, 5, 74, 75, 15, 9, 469}, -3, 546, 4);
         workIs(1, 252, 1, new int[] {6, 118, 11, -19, 67, 8, 98, 132, 64, 71, 119}, 6, 941, 3);
+        // nothing, or just 1 at a time: 32200 together
+        workIs(1, 32, 0, new int[] {0, 100, 0, 0, 0, 50, 1, 200, 1, 1, 0}, 6, 2, 4);
+        workIs(1, 0, 0, new int[] {0, 100, 0, 0, 0, 50, 1, 200, 1, 1, 0}, 6, 1, 4);
         ValveShop x = Shops.plain();
         for (int notch = -6; notch <= 6; notch++) {
             CHECK.due("by REGULATOR 0 in NOTCH " + notch, x.work(0, notch, 2000, 0, 1), 0);

@@ -87,16 +87,16 @@ public final class FaceTest {
     private static void source(String text) {
         String bare = text.replaceAll("(?s)/\\*.*?\\*/", " ").replaceAll("//[^\n]*", " ");
         String[] ruledOut = {"throw", "throws", "try", "catch", "synchronized", "assert", "Random", "Thread", "System\\.out",
-            "System\\.nanoTime", "currentTimeMillis", "equals", "hashCode", "toString", "double", "float", "package", "var",
-            "record", "lambda", "native", "volatile"};
+            "System\\.nanoTime", "currentTimeMillis", "hashCode", "package", "native", "volatile"};
         for (String word : ruledOut) {
             CHECK.due("the word " + word, Pattern.compile("\\b" + word + "\\b").matcher(bare).find() ? 1 : 0, 0);
         }
         CHECK.due("no lambda", bare.contains("->") || bare.contains("::") ? 1 : 0, 0);
-        CHECK.due("no text joined by +", bare.contains("\"") ? 1 : 0, 0);
+        CHECK.due("no text joined by +", Pattern.compile("\"\\s*\\+|\\+\\s*\"").matcher(bare).find() ? 1 : 0, 0);
+        Set<String> library = Set.of("java.util.Arrays", "java.util.ArrayList", "java.util.List", "java.util.Iterator");
         Matcher imports = Pattern.compile("import\\s+([\\w.*]+);").matcher(bare);
         while (imports.find()) {
-            CHECK.due("import " + imports.group(1), imports.group(1).equals("java.util.Arrays") ? 1 : 0, 1);
+            CHECK.due("import " + imports.group(1), library.contains(imports.group(1)) ? 1 : 0, 1);
         }
         methodLengths(bare);
     }

@@ -231,6 +231,10 @@ public final class RunsEdgesTest {
         Shops.fill(six, 1, 1, 0, 0);
         CHECK.due("in NOTCH 6 by REGULATOR 1", six.run(0, 1000, 1000, 1, 0, 1), 2);
         CHECK.dueRow("in NOTCH 6 by REGULATOR 1", planned(six, 0), 6, 1, 8, 2);
+        // REGULATOR 1 has WORK 83 in NOTCH 6: what a NOTCH 7 would burn less than by REGULATOR 2 is not to be had
+        Shops.fill(six, 1, 10, 90, 0);
+        CHECK.due("in NOTCH 6 by REGULATOR 2", six.run(0, 1000, 1000, 1, 0, 1), 46);
+        CHECK.dueRow("in NOTCH 6 by REGULATOR 2", planned(six, 0), 6, 2, 24, 46);
         int[] shortLap = {7, 100, 4, 0, 10, 0, 40, 50, 10, 10, 100};
         ValveShop one = Shops.with(shortLap);
         Shops.fill(one, 1, 10, 0, 0);

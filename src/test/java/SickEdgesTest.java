@@ -526,6 +526,10 @@ public final class SickEdgesTest {
         nextIs(-6, 0, 9, 13, 27, 3, -15, 70, 34, 8, 164, 16, 29, 322);
         nextIs(-3, 9, 2, 0, 25, 3, -16, 26, 36, 21, 48, 44, 77, 26);
         nextIs(-4, 4, 7, 4, 39, 7, 9, 61, 41, 40, 41, 19, 14, 383);
+        // in most NOTCHES there is no difference, in the others it is 1 in all
+        CHECK.due("farther by 1", Shops.with(0, 43, 6, -19, 31, 45, 67, 139, 26, 57, 0).next(0, 3, 2, 3), -4);
+        CHECK.due("farther by 1", Shops.with(19, 26, 6, 3, 89, 7, 98, 171, 68, 69, 5).next(0, 11, 2, 1), -5);
+        CHECK.due("several by 1", Shops.with(11, 135, 8, 4, 85, 11, 32, 61, 72, 9, 2).next(0, 4, 0, 1), 0);
     }
 
     private static void nextOfPlaces() {

@@ -100,10 +100,15 @@ public final class ValvesEdgesTest {
             CHECK.due("C(" + k + ") by 50", x.valve(0, 6, k + 12), turn[k] / 50);
             CHECK.due("X(" + k + ")", x.piston(0, k), (10000 - turn[k]) / 20);
         }
-        for (int throwOf = 11; throwOf < 200; throwOf++) {
-            ValveShop y = of(throwOf, 0, 0, 0, 0, 100);
-            for (int k = 0; k <= 12; k++) {
-                CHECK.due("THROW " + throwOf + " c(" + k + ")", y.valve(0, 6, k + 12), throwOf * c[k] / 10000);
+        for (int throwOf = 10; throwOf <= 200; throwOf++) {
+            for (int notch = 3; notch <= 6; notch++) {
+                ValveShop y = of(throwOf, throwOf % 12, 0, 0, 0, 100);
+                for (int k = 0; k < 48; k++) {
+                    int first = turn[(k + throwOf % 12 + 36) % 48];
+                    int second = turn[(throwOf % 12 - k + 84) % 48];
+                    CHECK.due("THROW " + throwOf + ", NOTCH " + notch + ", V(" + k + ")", y.valve(0, notch, k),
+                        throwOf * ((6 + notch) * first + (6 - notch) * second) / 120000);
+                }
             }
         }
     }
