@@ -13,6 +13,9 @@ public final class AskedEdgesTest {
     private static final int[] SICK_BY_5 = {17, 119, 5, 9, 74, 38, 47, 96, 32, 24, 357};
     private static final int[] STUCK_BY_8 = {16, 75, 10, -16, 89, -13, 80, 194, 61, 28, 344};
 
+    /** Of which KINDS, 0 to 4, the ENGINES at places 0 to 4 of withAll() are. */
+    private static final int[][] KINDS_OF_ALL = {{1, 1, 0, 0, 0}, {1, 1, 1, 0, 0}, {1, 0, 0, 1, 0}, {1, 0, 0, 1, 1}, {0, 0, 0, 0, 0}};
+
     private AskedEdgesTest() {
     }
 
@@ -165,8 +168,6 @@ public final class AskedEdgesTest {
         x.drop(0);
         return x;
     }
-
-    private static final int[][] KINDS_OF_ALL = {{1, 1, 0, 0, 0}, {1, 1, 1, 0, 0}, {1, 0, 0, 1, 0}, {1, 0, 0, 1, 1}, {0, 0, 0, 0, 0}};
 
     private static void is() {
         ValveShop x = withAll();

@@ -283,21 +283,19 @@ public final class SheetsEdgesTest {
 
     private static void copyAll() {
         ValveShop x = new ValveShop();
-        x.sheet(0, 1, 60);
-        x.sheet(7, 1, 60);
+        x.sheet(0, 2, 60);
+        x.sheet(6, 2, 60);
         x.set(0, 0, 77);
         x.set(0, 59, 78);
-        CHECK.due("61", x.copy(0, 0, 7, 0, 61), Check.PLACE);
-        CHECK.due("60", x.copy(0, 0, 7, 0, 60), 60);
-        x.drop(0);
-        x.sheet(0, 2, 1);
-        x.sheet(1, 1, 60);
-        x.copy(7, 0, 1, 59, 1);
-        x.copy(7, 59, 1, 0, 1);
-        CHECK.due("it came", x.copy(7, 0, 1, 1, 59), 59);
-        Shops.put(x, 0, Shops.SHUT);
-        x.copy(7, 48, 1, 2, 12);
-        CHECK.due("the ends of both: 78, 77 and 78", x.whose(1, 0, 0, 2), 78 + 77 + 78);
+        CHECK.due("61", x.copy(0, 0, 6, 0, 61), Check.PLACE);
+        CHECK.due("nothing came", Shops.item(x, 6, 0), 0);
+        CHECK.due("60", x.copy(0, 0, 6, 0, 60), 60);
+        CHECK.due("the first", Shops.item(x, 6, 0), 77);
+        CHECK.due("the last", Shops.item(x, 6, 59), 78);
+        CHECK.due("59 from 1 on", x.copy(0, 0, 6, 1, 59), 59);
+        CHECK.due("60 from 1 on", x.copy(0, 0, 6, 1, 60), Check.PLACE);
+        CHECK.due("the second", Shops.item(x, 6, 1), 77);
+        CHECK.due("the last", Shops.item(x, 6, 59), 0);
     }
 
     private static void copyToTheEnds() {
