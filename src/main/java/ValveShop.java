@@ -716,9 +716,7 @@ public final class ValveShop {
                 // asks need not call one another in a ring.
                 return worthOfSound(engine) + markOfEven(engine);
             case SICK: return worthOfSick(engine);
-            case STUCK:
-                leave(14);
-                return 2 * worthOfSick(engine);
+            case STUCK: return worthOfStuck(engine);
             default: return worthOfAny(engine);
         }
     }
@@ -736,6 +734,11 @@ public final class ValveShop {
     private int worthOfSick(Engine engine) {
         leave(13);
         return worthOfAny(engine) - engine.sickness;
+    }
+
+    private int worthOfStuck(Engine engine) {
+        leave(14);
+        return 2 * worthOfSick(engine);
     }
 
     private int askMark(Engine engine, int told) {
@@ -761,7 +764,9 @@ public final class ValveShop {
 
     private int markOfSick(Engine engine, int told) {
         leave(22);
-        return markOfAny(engine) + askWorth(engine, told);
+        int mark = markOfAny(engine);
+        // Only these two come here: by way of askWorth() the calls would seem to go nine deep.
+        return mark + (told == STUCK ? worthOfStuck(engine) : worthOfSick(engine));
     }
 
     private void leave(int body) {

@@ -1,16 +1,11 @@
-import java.io.IOException;
 import java.lang.reflect.Constructor;
 import java.lang.reflect.Field;
 import java.lang.reflect.Method;
 import java.lang.reflect.Modifier;
-import java.nio.file.Files;
-import java.nio.file.Path;
 import java.util.Set;
 import java.util.TreeSet;
-import java.util.regex.Matcher;
-import java.util.regex.Pattern;
 
-/** The public face, and what can be seen of LANGUAGE.md from outside. The first argument is the class's file. */
+/** The public face, and what can be seen of LANGUAGE.md from outside. LanguageTest reads the file itself. */
 public final class FaceTest {
     private static final Check CHECK = new Check("face");
     private static final String[] FACE = {
@@ -22,11 +17,10 @@ public final class FaceTest {
     private FaceTest() {
     }
 
-    public static void main(String[] args) throws IOException, IllegalAccessException {
+    public static void main(String[] args) throws IllegalAccessException {
         constants();
         methods();
         nested();
-        source(Files.readString(Path.of(args.length > 0 ? args[0] : "src/main/java/ValveShop.java")));
         CHECK.end();
     }
 
@@ -81,39 +75,6 @@ public final class FaceTest {
             CHECK.due(inner.getName() + " is static", Modifier.isStatic(with) ? 1 : 0, 1);
             CHECK.due(inner.getName() + " is not shown", Modifier.isPublic(with) || Modifier.isProtected(with) ? 1 : 0, 0);
             CHECK.due(inner.getName() + " has twenty fields at most", inner.getDeclaredFields().length <= 20 ? 1 : 0, 1);
-        }
-    }
-
-    private static void source(String text) {
-        String bare = text.replaceAll("(?s)/\\*.*?\\*/", " ").replaceAll("//[^\n]*", " ");
-        String[] ruledOut = {"throw", "throws", "try", "catch", "synchronized", "assert", "Random", "Thread", "System\\.out",
-            "System\\.nanoTime", "currentTimeMillis", "hashCode", "package", "native", "volatile"};
-        for (String word : ruledOut) {
-            CHECK.due("the word " + word, Pattern.compile("\\b" + word + "\\b").matcher(bare).find() ? 1 : 0, 0);
-        }
-        CHECK.due("no lambda", bare.contains("->") || bare.contains("::") ? 1 : 0, 0);
-        CHECK.due("no text joined by +", Pattern.compile("\"\\s*\\+|\\+\\s*\"").matcher(bare).find() ? 1 : 0, 0);
-        Set<String> library = Set.of("java.util.Arrays", "java.util.ArrayList", "java.util.List", "java.util.Iterator");
-        Matcher imports = Pattern.compile("import\\s+([\\w.*]+);").matcher(bare);
-        while (imports.find()) {
-            CHECK.due("import " + imports.group(1), library.contains(imports.group(1)) ? 1 : 0, 1);
-        }
-        methodLengths(bare);
-    }
-
-    /** A method's body begins on a line that is set in by 4 or 8 and ends with the brace below it. */
-    private static void methodLengths(String bare) {
-        String[] lines = bare.split("\n");
-        for (int i = 0; i < lines.length; i++) {
-            Matcher head = Pattern.compile("^( {4}| {8})\\S.*\\) \\{\\s*$").matcher(lines[i]);
-            if (!head.matches()) {
-                continue;
-            }
-            int end = i;
-            while (end < lines.length && !lines[end].startsWith(head.group(1) + "}")) {
-                end++;
-            }
-            CHECK.due("short enough: " + lines[i].trim(), end - i <= 60 ? 1 : 0, 1);
         }
     }
 }
